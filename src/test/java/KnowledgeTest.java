@@ -149,6 +149,15 @@ public final class KnowledgeTest {
         trains(pairs(4, new int[][] {{0, 3}, {1, 2}}), 2, 0, 0, 1, 1);
         trains(pairs(4, new int[][] {{0, 1}}), 2, 0, 1, 0, 0);
         trains(pairs(3, new int[][] {{0, 1}, {2, 2}}), -2, -2, -2, -2);
+        // One journey says nothing of the next one.
+        MaidsMemory x = pairs(3, new int[][] {{0, 1}, {0, 2}, {1, 2}});
+        for (int house = 0; house < 3; house++) {
+            for (int other = 0; other < 3; other++) {
+                x.mend(10 * other, 0, house == other ? 1 : 0);
+                x.mend(10 * other + 3, 0, house == other ? 1 : 0);
+            }
+            trains(x, 2, 0, house == 0 ? 1 : 0, house == 0 ? 0 : 1);
+        }
     }
 
     private static void heard(MaidsMemory x, int sets, int least, int certain) {

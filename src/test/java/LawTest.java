@@ -49,9 +49,13 @@ public final class LawTest {
         Due.is("9: the tape is empty", x.count(2), 0);
         x.day();
         Due.is("9: by the law of before", x.has(0, 0), 17);
+        Due.is("9: a fault at once", Due.law(x, "?"), -100);
+        Due.is("9: nothing told", x.law(), -100);
+        x.day();
+        Due.is("9: by the law of before", x.has(0, 0), 21);
         Due.is("9: another law", Due.law(x, "a/2"), 1);
         x.day();
-        Due.is("9: by the other law", x.has(0, 0), 21);
+        Due.is("9: by the other law", x.has(0, 0), 25);
         Due.is("9: laws are no changes", x.count(3), 1);
     }
 
@@ -124,6 +128,13 @@ public final class LawTest {
         fault("a\u0000", 1);
         fault("\u00ff", 0);
         fault("a;f?r;s?", 8);
+        fault(":", 0);
+        fault("1:", 1);
+        fault("1234:", 4);
+        fault("a,", 1);
+        fault("/a", 0);
+        fault("e", 0);
+        fault("b", 0);
     }
 
     private static void promise9Open() {
@@ -175,6 +186,11 @@ public final class LawTest {
         takes(lines.substring(0, 119), 0);
         lines.setLength(115);
         takes(lines + ";7", 7);
+        StringBuilder signs = new StringBuilder("-1");
+        while (signs.length() < 118) {
+            signs.append("+0");
+        }
+        takes(signs + "+8", 7);
         // As many values at once as a text can need.
         takes("0|1&0<1+2*(0|1&0<1+2*(0|1&0<1+2*(0|1&0<1+2*(0|1&0<1+2*(0|1&0<1+2*(0|1&0<1+2*3))))))", 1);
     }
