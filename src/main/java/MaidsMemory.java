@@ -6,6 +6,8 @@ public final class MaidsMemory {
     public static final int BAD = -1, NOT = -2, FULL = -3, STATE = -5, VOID = -2000000000;
 
     private static final int NOTHING_THERE = -11, OTHER_KIND = -12, NO_PLACE = -13, SIZE_BELOW_0 = -14;
+    /** The least long: the library here has no name for it. */
+    private static final long NO_ELEMENT = 1L << 63;
     private static final int HOUSES = 6, GIRLS = 7, HILLS = 4, SORTS = 4;
     private static final int CELLS = HOUSES * SORTS, SETS = 1 << GIRLS;
     private static final int LONGEST_THOUGHT = 60, LONGEST_TEXT = 120;
@@ -424,7 +426,7 @@ public final class MaidsMemory {
     }
 
     public long element(int shelf, int i) {
-        return refusalAt(shelf, i) < 0 ? Long.MIN_VALUE : shelves.cell(shelf, i);
+        return refusalAt(shelf, i) < 0 ? NO_ELEMENT : shelves.cell(shelf, i);
     }
 
     public int shift(int shelf, int i, int other, int j, int n) {

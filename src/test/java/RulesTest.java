@@ -15,7 +15,7 @@ public final class RulesTest {
         "transient", "native", "strictfp", "float", "double", "var", "yield", "instanceof", "Object", "Thread", "Runtime",
         "Random", "Scanner", "File", "Optional", "Stream", "equals", "hashCode", "toString", "String"));
     private static final Set<String> LIBRARY = new HashSet<>(Arrays.asList(
-        "System.arraycopy", "Math.min", "Math.max", "Math.abs", "Integer.bitCount", "Long.MIN_VALUE"));
+        "System.arraycopy", "Math.min", "Math.max", "Integer.bitCount"));
 
     public static void main(String[] args) throws Exception {
         String text = bare(new String(Files.readAllBytes(Path.of(FILE)), StandardCharsets.UTF_8));
