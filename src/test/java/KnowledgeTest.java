@@ -14,6 +14,7 @@ public final class KnowledgeTest {
         promise24();
         promise25();
         promise25Worth();
+        promise25Free();
         promise25Refused();
         promise26();
         promise26Girls();
@@ -353,6 +354,28 @@ public final class KnowledgeTest {
         turns(x, 10, 4, 0, 7);
         x.mend(0, 2, 17);
         turns(x, 1, 2, -1, 0);
+    }
+
+    /** One who is HIRED, in deed or by a turn ahead, is not asked again, though her number is less. */
+    private static void promise25Free() {
+        MaidsMemory x = new MaidsMemory();
+        for (int i = 0; i < 3; i++) {
+            x.house();
+        }
+        x.girl(50, 0);
+        x.girl(20, 0);
+        x.girl(5, 0);
+        turns(x, 1, 1, 50, 0);
+        turns(x, 1, 2, 30, 0);
+        turns(x, 1, 3, 35, 0);
+        turns(x, 1, 4, 35, 0);
+        x.hire(0, 2);
+        turns(x, 1, 1, 20, 1);
+        turns(x, 1, 2, 15, 1);
+        turns(x, 1, 3, 15, 1);
+        x.hire(1, 0);
+        turns(x, 1, 1, 5, 2);
+        turns(x, 10, 4, 5, 2);
     }
 
     private static void promise25Refused() {
